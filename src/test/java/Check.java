@@ -1,0 +1,34 @@
+/** Counts the answers of one test class that are not as due. */
+final class Check {
+    private final String part;
+    private int asked;
+    private int wrong;
+
+    Check(String part) {
+        this.part = part;
+    }
+
+    void due(String call, long got, long want) {
+        asked++;
+        if (got != want) {
+            wrong++;
+            System.out.println(part + ": " + call + " answered " + got + ", due is " + want);
+        }
+    }
+
+    void holds(String what, boolean is) {
+        asked++;
+        if (!is) {
+            wrong++;
+            System.out.println(part + ": not so: " + what);
+        }
+    }
+
+    /** Ends the test class: with exit code 1 if an answer was wrong, or if nothing was asked. */
+    void end() {
+        System.out.println(part + ": " + asked + " answers, " + wrong + " of them wrong");
+        if (wrong != 0 || asked == 0) {
+            System.exit(1);
+        }
+    }
+}
