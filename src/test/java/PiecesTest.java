@@ -134,5 +134,4 @@ public final class PiecesTest {
         T.due("place MIN", x.inRow(Integer.MIN_VALUE), NONE);
         T.due("place MAX", x.inRow(Integer.MAX_VALUE), NONE);
     }
-
 }
