@@ -623,7 +623,7 @@ public final class WaxVoices {
             for (int y = 0; y < years; y++) {
                 addUp(saves[2 * y], first, setLightSaves);
                 addUp(saves[2 * y + 1], first, setNeedleSaves);
-                for (int set = 0; set < sets; set++) {
+                for (int set = 1; set < sets; set++) {
                     inOneYear[set] = savedTogether(set, hoursLeft[y]);
                 }
                 joinYear(sets);
@@ -692,7 +692,7 @@ public final class WaxVoices {
         }
     }
 
-    /** All SIGNS. What they weigh changes only where one begins or has ended: just these speeds are tried. */
+    /** All SIGNS. They weigh more only where one begins, less only where one has ended: just there is tried. */
     private static final class SignBook {
         static final int MOST_SPEED = 30000;
         static final int MOST_WEIGHT = 9;
@@ -772,16 +772,12 @@ public final class WaxVoices {
             }
             int weight = weightAt(side, first);
             int last = MOST_SPEED;
+            // nothing weighs more than this, so THE SPAN can only end where a SIGN does
             for (int i = 0; i < count; i++) {
-                Sign s = signs[i];
-                if (!s.isOf(side)) {
-                    continue;
-                }
-                if (s.low > first && s.low <= last && weightAt(side, s.low) != weight) {
-                    last = s.low - 1;
-                }
-                if (s.high >= first && s.high < last && weightAt(side, s.high + 1) != weight) {
-                    last = s.high;
+                int high = signs[i].high;
+                boolean endsHere = signs[i].isOf(side) && high >= first && high < last;
+                if (endsHere && weightAt(side, high + 1) != weight) {
+                    last = high;
                 }
             }
             return last;

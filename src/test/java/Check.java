@@ -8,6 +8,14 @@ final class Check {
         this.part = part;
     }
 
+    static WaxVoices withSides(int n) {
+        WaxVoices x = new WaxVoices();
+        for (int i = 0; i < n; i++) {
+            x.side(1, 1, 1, 1);
+        }
+        return x;
+    }
+
     void due(String call, long got, long want) {
         asked++;
         if (got != want) {

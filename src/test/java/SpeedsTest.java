@@ -15,16 +15,8 @@ public final class SpeedsTest {
         T.end();
     }
 
-    private static WaxVoices withSides(int n) {
-        WaxVoices x = new WaxVoices();
-        for (int i = 0; i < n; i++) {
-            x.side(1, 1, 1, 1);
-        }
-        return x;
-    }
-
     private static void signsAreNumbered() {
-        WaxVoices x = withSides(2);
+        WaxVoices x = Check.withSides(2);
         for (int i = 0; i < 60; i++) {
             T.due("sign " + i, x.sign(i % 2, 1, 2, 1), i);
         }
@@ -40,7 +32,7 @@ public final class SpeedsTest {
     }
 
     private static void signsAreRefused() {
-        WaxVoices x = withSides(1);
+        WaxVoices x = Check.withSides(1);
         T.due("side 1", x.sign(1, 0, 0, 0), UNKNOWN);
         T.due("side -1", x.sign(-1, 1, 1, 1), UNKNOWN);
         T.due("low 0", x.sign(0, 0, 5, 1), BAD);
@@ -59,7 +51,7 @@ public final class SpeedsTest {
     }
 
     private static void signsAreDropped() {
-        WaxVoices x = withSides(1);
+        WaxVoices x = Check.withSides(1);
         T.due("drop(0)", x.drop(0), UNKNOWN);
         x.sign(0, 10, 20, 5);
         T.due("drop(1)", x.drop(1), UNKNOWN);
@@ -75,7 +67,7 @@ public final class SpeedsTest {
     }
 
     private static void theSpeedIsTheLeastOfTheHeaviest() {
-        WaxVoices x = withSides(2);
+        WaxVoices x = Check.withSides(2);
         x.sign(0, 500, 600, 3);
         x.sign(0, 100, 200, 3);
         T.due("the least of like ones", x.speed(0), 100);
@@ -92,7 +84,7 @@ public final class SpeedsTest {
     }
 
     private static void theSpanGoesOnWhileItWeighsAsMuch() {
-        WaxVoices x = withSides(1);
+        WaxVoices x = Check.withSides(1);
         x.sign(0, 10, 20, 4);
         x.sign(0, 21, 30, 1);
         x.sign(0, 21, 25, 3);
@@ -112,7 +104,7 @@ public final class SpeedsTest {
     }
 
     private static void theSpanEndsAtTheLastSpeed() {
-        WaxVoices x = withSides(1);
+        WaxVoices x = Check.withSides(1);
         x.sign(0, 29999, 30000, 2);
         T.due("speed", x.speed(0), 29999);
         T.due("span", x.span(0), 30000);
@@ -122,7 +114,7 @@ public final class SpeedsTest {
     }
 
     private static void weightsAreAdded() {
-        WaxVoices x = withSides(2);
+        WaxVoices x = Check.withSides(2);
         x.sign(0, 10, 20, 4);
         x.sign(0, 20, 30, 5);
         x.sign(1, 1, 30000, 9);
@@ -139,7 +131,7 @@ public final class SpeedsTest {
     }
 
     private static void pairsQuarrel() {
-        WaxVoices x = withSides(2);
+        WaxVoices x = Check.withSides(2);
         T.due("none", x.quarrels(0), 0);
         x.sign(0, 10, 20, 1);
         x.sign(0, 20, 30, 1);

@@ -18,16 +18,8 @@ public final class TextsTest {
         T.end();
     }
 
-    private static WaxVoices withSides(int n) {
-        WaxVoices x = new WaxVoices();
-        for (int i = 0; i < n; i++) {
-            x.side(1, 1, 1, 1);
-        }
-        return x;
-    }
-
     private static void sungIsSet() {
-        WaxVoices x = withSides(1);
+        WaxVoices x = Check.withSides(1);
         T.due("none at first", x.sung(0, 255, 3), 0);
         T.due("all", x.sung(0, 5, 0), 255);
         T.due("side 1", x.sung(1, 1, 0), UNKNOWN);
@@ -120,7 +112,7 @@ public final class TextsTest {
     }
 
     private static void eachFamilyMustLet() {
-        WaxVoices x = withSides(2);
+        WaxVoices x = Check.withSides(2);
         T.due("no family: any may", x.may(0, 5, 0), 1);
         x.sung(0, 0b10000001, 3);
         T.due("no text: not let", x.may(0, 5, 9999), 0);
@@ -141,7 +133,7 @@ public final class TextsTest {
     }
 
     private static void mayIsRefused() {
-        WaxVoices x = withSides(1);
+        WaxVoices x = Check.withSides(1);
         T.due("side 1", x.may(1, 0, 0), UNKNOWN);
         T.due("side -1", x.may(-1, 0, 0), UNKNOWN);
         T.due("hearer 6", x.may(0, 6, 0), UNKNOWN);
@@ -152,7 +144,7 @@ public final class TextsTest {
     }
 
     private static void allThatIsHeard() {
-        WaxVoices x = withSides(16);
+        WaxVoices x = Check.withSides(16);
         T.due("all without families", x.heard(0, 0), 65535);
         x.sung(15, 1, 0);
         x.sung(3, 2, 1);
@@ -167,7 +159,7 @@ public final class TextsTest {
     }
 
     private static void daysAreCounted() {
-        WaxVoices x = withSides(2);
+        WaxVoices x = Check.withSides(2);
         T.due("the empty set", x.days(0, 0, 0, 9999), 10000);
         T.due("no families", x.days(3, 0, 9999, 9999), 1);
         x.sung(0, 1, 0);
@@ -192,7 +184,7 @@ public final class TextsTest {
     }
 
     private static void daysAreRefused() {
-        WaxVoices x = withSides(1);
+        WaxVoices x = Check.withSides(1);
         T.due("an unknown bit", x.days(2, 0, 0, 0), UNKNOWN);
         T.due("a negative set", x.days(-1, 0, 0, 0), UNKNOWN);
         T.due("hearer 6", x.days(1, 6, 0, 0), UNKNOWN);
