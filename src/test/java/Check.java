@@ -32,6 +32,16 @@ final class Check {
         }
     }
 
+    /** Tells the first line in which two texts differ. */
+    void same(String what, String got, String want) {
+        String[] gotLines = got.split("\n");
+        String[] wantLines = want.split("\n");
+        int line = 0;
+        while (line < gotLines.length && line < wantLines.length && gotLines[line].equals(wantLines[line])) line++;
+        String first = line < gotLines.length ? gotLines[line] : "it ends";
+        holds(what + ", but: " + first, got.equals(want));
+    }
+
     /** Ends the test class: with exit code 1 if an answer was wrong, or if nothing was asked. */
     void end() {
         System.out.println(part + ": " + asked + " answers, " + wrong + " of them wrong");

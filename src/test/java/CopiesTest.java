@@ -5,7 +5,6 @@ public final class CopiesTest {
 
     public static void main(String[] args) {
         copyTellsOfWhichItWas();
-        copyIsRefused();
         noCircles();
         allCopies();
         theLongestChain();
@@ -33,19 +32,6 @@ public final class CopiesTest {
         T.due("of none", x.copy(1, NONE), 2);
         T.due("told", x.told(1, 8), NONE);
         T.due("of none again", x.copy(1, NONE), NONE);
-    }
-
-    private static void copyIsRefused() {
-        WaxVoices x = withSounds(1);
-        T.due("a 1", x.copy(1, 0), UNKNOWN);
-        T.due("a -1", x.copy(-1, 0), UNKNOWN);
-        T.due("a NONE", x.copy(NONE, 0), UNKNOWN);
-        T.due("a NONE, b NONE", x.copy(NONE, NONE), UNKNOWN);
-        T.due("b 1", x.copy(0, 1), UNKNOWN);
-        T.due("b -1", x.copy(0, -1), UNKNOWN);
-        T.due("b MAX", x.copy(0, Integer.MAX_VALUE), UNKNOWN);
-        T.due("of itself", x.copy(0, 0), STATE);
-        T.due("refused: none", x.told(0, 8), NONE);
     }
 
     private static void noCircles() {

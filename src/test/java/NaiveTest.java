@@ -7,13 +7,18 @@ public final class NaiveTest {
         -1, -2, -9, 0, 1, 5, 6, 7, 8, 9, 10, 15, 16, 59, 60, 99, 100, 101, 255, 256, 999, 1000, 1001, 3000, 3001,
         9999, 10000, 30000, 30001, 65535, 65536, 600000, 600001, Integer.MIN_VALUE, Integer.MAX_VALUE
     };
-
-    private static final int SIDES = 5, PLANS = 3, SPEEDS = 6, PIECES = 6, TEXTS = 6, COPIES = 4;
+    private static final Op[][] PARTS = {
+        {Op.side, Op.hours, Op.told, Op.read, Op.pass},
+        {Op.best, Op.does, Op.needed},
+        {Op.sign, Op.drop, Op.speed, Op.span, Op.weighs, Op.quarrels},
+        {Op.piece, Op.sweep, Op.tolerance, Op.rows, Op.misfit, Op.inRow},
+        {Op.sung, Op.text, Op.counts, Op.may, Op.heard, Op.days},
+        {Op.copy, Op.copies, Op.clearest, Op.total},
+    };
 
     private long seed;
     private final WaxVoices x = new WaxVoices();
     private final NaiveWax n = new NaiveWax();
-    private String call;
     private final int dayScale;
     private final int speedScale;
 
@@ -28,13 +33,68 @@ public final class NaiveTest {
         for (int run = 0; run < RUNS; run++) {
             NaiveTest t = new NaiveTest(run);
             // each run leans on one part, so that each part comes to be full in some run
-            int part = run % 7;
+            int leaning = run % (PARTS.length + 1);
             for (int i = 0; i < CALLS; i++) {
-                int asked = t.below(3) == 0 || part == 6 ? t.below(6) : part;
-                t.step(asked);
+                boolean any = leaning == PARTS.length || t.below(3) == 0;
+                t.step(PARTS[any ? t.below(PARTS.length) : leaning]);
             }
         }
         T.end();
+    }
+
+    private void step(Op[] part) {
+        Op op = part[below(part.length)];
+        // swept away seldom, so that seven come to lie there
+        if (op == Op.sweep && below(8) != 0) return;
+        int[] arguments = arguments(op);
+        T.due(op.text(arguments), op.ask(x, arguments), op.ask(n, arguments));
+    }
+
+    private int[] arguments(Op op) {
+        return switch (op) {
+            case side -> of(num(0, 20), num(0, 100), num(0, 15), num(0, 6));
+            case hours -> of(aSide(), num(1, 12), num(1, 12));
+            case told -> of(aSide(), num(0, 8));
+            case read -> of(aSide(), below(2));
+            // years are few, so that sides do not all rot away
+            case pass -> of(below(8) == 0 ? num(1, 3) : 0);
+            case best -> of(set(6), num(1, 3), num(0, 40));
+            case does -> of(set(6), num(1, 3), num(0, 40), aSide());
+            case needed -> of(set(6), num(1, 3), num(0, 5000));
+            case sign -> signArguments();
+            case drop -> of(below(3) == 0 ? num(0, 59) : 60);
+            case speed, span, quarrels -> of(oneOfTwo());
+            case weighs -> of(oneOfTwo(), num(1, speedScale));
+            case piece -> of(groove(), groove());
+            case sweep, rows, misfit -> of();
+            case tolerance -> of(groove());
+            case inRow -> of(num(0, 6));
+            case sung -> of(aSide(), below(2) == 0 ? 1 << below(3) : num(0, 255), num(0, 3));
+            case text -> of(num(0, below(2) == 0 ? 7 : 2), orNone(3), orNone(5), day(), below(3) == 0 ? 0 : 1);
+            case counts -> of(num(0, 7), num(0, 3), num(0, 5), day());
+            case may -> of(aSide(), num(0, 5), day());
+            case heard -> of(num(0, 5), day());
+            case days -> daysArguments();
+            case copy -> of(aSide(), below(6) == 0 ? WaxVoices.NONE : aSide());
+            case copies, clearest -> of(aSide());
+            case total -> of(num(0, 5));
+        };
+    }
+
+    private int[] signArguments() {
+        int low = num(1, speedScale);
+        int high = below(10) == 0 ? num(1, speedScale) : low + below(speedScale / 3);
+        return of(oneOfTwo(), low, high, num(1, 4));
+    }
+
+    private int[] daysArguments() {
+        int from = day();
+        int to = below(3) == 0 ? day() : Math.min(9999, Math.max(0, from)) + below(50);
+        return of(set(2), num(0, 5), from, to);
+    }
+
+    private static int[] of(int... arguments) {
+        return arguments;
     }
 
     /** One of 0 .. n - 1, the same ones in each session. */
@@ -52,12 +112,20 @@ public final class NaiveTest {
         return num(0, Math.max(0, n.sides.size() - 1));
     }
 
+    private int oneOfTwo() {
+        return below(Math.max(1, Math.min(2, n.sides.size())));
+    }
+
+    private int groove() {
+        return num(0, below(2) == 0 ? 99 : 6);
+    }
+
     private int day() {
         return num(0, dayScale - 1);
     }
 
     private int orNone(int high) {
-        return below(3) == 0 ? -9 : num(0, high);
+        return below(3) == 0 ? WaxVoices.NONE : num(0, high);
     }
 
     private int set(int most) {
@@ -65,229 +133,5 @@ public final class NaiveTest {
         int bits = below(most + 1);
         for (int i = 0; i < bits && !n.sides.isEmpty(); i++) set |= 1 << below(n.sides.size());
         return below(40) == 0 ? ODD[below(ODD.length)] : set;
-    }
-
-    private void due(int got, int want) {
-        T.due(call, got, want);
-    }
-
-    private void name(String name, int... args) {
-        StringBuilder text = new StringBuilder(name).append('(');
-        for (int i = 0; i < args.length; i++) text.append(i == 0 ? "" : ", ").append(args[i]);
-        call = text.append(')').toString();
-    }
-
-    private void step(int part) {
-        switch (part) {
-            case 0 -> sides(below(SIDES));
-            case 1 -> plans(below(PLANS));
-            case 2 -> speeds(below(SPEEDS));
-            case 3 -> pieces(below(PIECES));
-            case 4 -> texts(below(TEXTS));
-            default -> copies(below(COPIES));
-        }
-    }
-
-    private void sides(int which) {
-        int a = aSide(), b, c, d;
-        switch (which) {
-            case 0 -> {
-                a = num(0, 20);
-                b = num(0, 100);
-                c = num(0, 15);
-                d = num(0, 6);
-                name("side", a, b, c, d);
-                due(x.side(a, b, c, d), n.side(a, b, c, d));
-            }
-            case 1 -> {
-                b = num(1, 12);
-                c = num(1, 12);
-                name("hours", a, b, c);
-                due(x.hours(a, b, c), n.hours(a, b, c));
-            }
-            case 2 -> {
-                b = num(0, 8);
-                name("told", a, b);
-                due(x.told(a, b), n.told(a, b));
-            }
-            case 3 -> {
-                b = below(2);
-                name("read", a, b);
-                due(x.read(a, b == 1), n.read(a, b == 1));
-            }
-            default -> {
-                // years are few, so that sides do not all rot away
-                a = below(8) == 0 ? num(1, 3) : 0;
-                name("pass", a);
-                due(x.pass(a), n.pass(a));
-            }
-        }
-    }
-
-    private void plans(int which) {
-        int set = set(6), years = num(1, 3), c, d;
-        switch (which) {
-            case 0 -> {
-                c = num(0, 40);
-                name("best", set, years, c);
-                due(x.best(set, years, c), n.best(set, years, c));
-            }
-            case 1 -> {
-                c = num(0, 40);
-                d = aSide();
-                name("does", set, years, c, d);
-                due(x.does(set, years, c, d), n.does(set, years, c, d));
-            }
-            default -> {
-                c = num(0, 5000);
-                name("needed", set, years, c);
-                due(x.needed(set, years, c), n.needed(set, years, c));
-            }
-        }
-    }
-
-    private void speeds(int which) {
-        int a = n.sides.isEmpty() ? 0 : below(Math.min(2, n.sides.size())), b, c, d;
-        switch (which) {
-            case 0 -> {
-                b = num(1, speedScale);
-                c = below(10) == 0 ? num(1, speedScale) : b + below(speedScale / 3);
-                d = num(1, 4);
-                name("sign", a, b, c, d);
-                due(x.sign(a, b, c, d), n.sign(a, b, c, d));
-            }
-            case 1 -> {
-                a = below(3) == 0 ? num(0, 59) : 60;
-                name("drop", a);
-                due(x.drop(a), n.drop(a));
-            }
-            case 2 -> {
-                name("speed", a);
-                due(x.speed(a), n.speed(a));
-            }
-            case 3 -> {
-                name("span", a);
-                due(x.span(a), n.span(a));
-            }
-            case 4 -> {
-                b = num(1, speedScale);
-                name("weighs", a, b);
-                due(x.weighs(a, b), n.weighs(a, b));
-            }
-            default -> {
-                name("quarrels", a);
-                due(x.quarrels(a), n.quarrels(a));
-            }
-        }
-    }
-
-    private void pieces(int which) {
-        int a, b;
-        switch (which) {
-            case 0 -> {
-                a = num(0, below(2) == 0 ? 99 : 6);
-                b = num(0, below(2) == 0 ? 99 : 6);
-                name("piece", a, b);
-                due(x.piece(a, b), n.piece(a, b));
-            }
-            case 1 -> {
-                if (below(8) != 0) return;
-                name("sweep");
-                due(x.sweep(), n.sweep());
-            }
-            case 2 -> {
-                a = num(0, below(2) == 0 ? 99 : 6);
-                name("tolerance", a);
-                due(x.tolerance(a), n.tolerance(a));
-            }
-            case 3 -> {
-                name("rows");
-                due(x.rows(), n.rows());
-            }
-            case 4 -> {
-                name("misfit");
-                due(x.misfit(), n.misfit());
-            }
-            default -> {
-                a = num(0, 6);
-                name("inRow", a);
-                due(x.inRow(a), n.inRow(a));
-            }
-        }
-    }
-
-    private void texts(int which) {
-        int a, b, c, d;
-        switch (which) {
-            case 0 -> {
-                a = aSide();
-                b = below(2) == 0 ? 1 << below(3) : num(0, 255);
-                c = num(0, 3);
-                name("sung", a, b, c);
-                due(x.sung(a, b, c), n.sung(a, b, c));
-            }
-            case 1 -> {
-                a = num(0, below(2) == 0 ? 7 : 2);
-                b = orNone(3);
-                c = orNone(5);
-                d = day();
-                boolean lets = below(3) != 0;
-                name("text", a, b, c, d, lets ? 1 : 0);
-                due(x.text(a, b, c, d, lets), n.text(a, b, c, d, lets));
-            }
-            case 2 -> {
-                a = num(0, 7);
-                b = num(0, 3);
-                c = num(0, 5);
-                d = day();
-                name("counts", a, b, c, d);
-                due(x.counts(a, b, c, d), n.counts(a, b, c, d));
-            }
-            case 3 -> {
-                a = aSide();
-                b = num(0, 5);
-                c = day();
-                name("may", a, b, c);
-                due(x.may(a, b, c), n.may(a, b, c));
-            }
-            case 4 -> {
-                a = num(0, 5);
-                b = day();
-                name("heard", a, b);
-                due(x.heard(a, b), n.heard(a, b));
-            }
-            default -> {
-                a = set(2);
-                b = num(0, 5);
-                c = day();
-                d = below(3) == 0 ? day() : Math.min(9999, Math.max(0, c)) + below(50);
-                name("days", a, b, c, d);
-                due(x.days(a, b, c, d), n.days(a, b, c, d));
-            }
-        }
-    }
-
-    private void copies(int which) {
-        int a = aSide(), b;
-        switch (which) {
-            case 0 -> {
-                b = below(6) == 0 ? -9 : aSide();
-                name("copy", a, b);
-                due(x.copy(a, b), n.copy(a, b));
-            }
-            case 1 -> {
-                name("copies", a);
-                due(x.copies(a), n.copies(a));
-            }
-            case 2 -> {
-                name("clearest", a);
-                due(x.clearest(a), n.clearest(a));
-            }
-            default -> {
-                a = num(0, 5);
-                name("total", a);
-                due(x.total(a), n.total(a));
-            }
-        }
     }
 }

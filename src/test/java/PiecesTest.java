@@ -5,13 +5,11 @@ public final class PiecesTest {
 
     public static void main(String[] args) {
         piecesAreNumbered();
-        piecesAreRefused();
         piecesAreSweptAway();
         toleranceIsKept();
         rowsAreCounted();
         theFirstRowOfTheLeastMisfit();
         likeRowsGoByPlace();
-        placesThatAreNone();
         T.end();
     }
 
@@ -23,18 +21,6 @@ public final class PiecesTest {
         T.due("the 8th", x.piece(1, 1), WaxVoices.FULL);
         T.due("BAD goes before FULL", x.piece(100, 1), BAD);
         T.due("total(3)", x.total(3), 7);
-    }
-
-    private static void piecesAreRefused() {
-        WaxVoices x = new WaxVoices();
-        T.due("left -1", x.piece(-1, 0), BAD);
-        T.due("left 100", x.piece(100, 0), BAD);
-        T.due("right -1", x.piece(0, -1), BAD);
-        T.due("right 100", x.piece(0, 100), BAD);
-        T.due("left MIN", x.piece(Integer.MIN_VALUE, 0), BAD);
-        T.due("none came", x.total(3), 0);
-        T.due("0 and 99", x.piece(0, 99), 0);
-        T.due("99 and 0", x.piece(99, 0), 1);
     }
 
     private static void piecesAreSweptAway() {
@@ -123,15 +109,5 @@ public final class PiecesTest {
         for (int i = 0; i < 7; i++) {
             T.due("place " + i, x.inRow(i), i);
         }
-    }
-
-    private static void placesThatAreNone() {
-        WaxVoices x = new WaxVoices();
-        T.due("no pieces", x.inRow(0), NONE);
-        x.piece(4, 4);
-        T.due("place 1", x.inRow(1), NONE);
-        T.due("place -1", x.inRow(-1), NONE);
-        T.due("place MIN", x.inRow(Integer.MIN_VALUE), NONE);
-        T.due("place MAX", x.inRow(Integer.MAX_VALUE), NONE);
     }
 }

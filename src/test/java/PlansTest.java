@@ -11,8 +11,6 @@ public final class PlansTest {
         readsWhatIsWorthNothing();
         theMost();
         hoursNeeded();
-        refusals();
-        orderOfRefusals();
         plansChangeNothing();
         T.end();
     }
@@ -136,45 +134,6 @@ public final class PlansTest {
         x.hours(1, 1, 1);
         T.due("two years share no hours", x.needed(3, 2, 1000), 1);
         T.due("one year", x.needed(3, 1, 1000), 2);
-    }
-
-    private static void refusals() {
-        WaxVoices x = new WaxVoices();
-        for (int i = 0; i < 7; i++) {
-            x.side(1, 1, 1, 1);
-        }
-        T.due("an unknown bit", x.best(128, 1, 1), UNKNOWN);
-        T.due("a negative set", x.best(-1, 1, 1), UNKNOWN);
-        T.due("the sign's bit", x.best(Integer.MIN_VALUE, 1, 1), UNKNOWN);
-        T.due("seven", x.best(127, 1, 1), BAD);
-        T.due("six", x.best(126, 1, 0), 0);
-        T.due("years 0", x.best(1, 0, 1), BAD);
-        T.due("years 4", x.best(1, 4, 1), BAD);
-        T.due("years MAX", x.best(1, Integer.MAX_VALUE, 1), BAD);
-        T.due("hours -1", x.best(1, 1, -1), BAD);
-        T.due("hours 3001", x.best(1, 1, 3001), BAD);
-        T.due("hours 3000", x.best(1, 1, 3000), 1);
-        T.due("saves -1", x.needed(1, 1, -1), BAD);
-        T.due("saves 600001", x.needed(1, 1, 600001), BAD);
-        T.due("needed: seven", x.needed(127, 1, 0), BAD);
-        T.due("needed: years 0", x.needed(1, 0, 0), BAD);
-        T.due("needed: years 4", x.needed(1, 4, 0), BAD);
-        T.due("needed: unknown", x.needed(128, 1, 0), UNKNOWN);
-        T.due("does: seven", x.does(127, 1, 0, 0), BAD);
-        T.due("does: side 7", x.does(1, 1, 0, 7), UNKNOWN);
-        T.due("does: side -1", x.does(1, 1, 0, -1), UNKNOWN);
-        T.due("does: side NONE", x.does(1, 1, 0, NONE), UNKNOWN);
-        T.due("does: hours 3001", x.does(1, 1, 3001, 0), BAD);
-        T.due("does: years 4", x.does(1, 4, 1, 0), BAD);
-    }
-
-    private static void orderOfRefusals() {
-        WaxVoices x = new WaxVoices();
-        x.side(1, 1, 1, 1);
-        T.due("best: set, then BAD", x.best(2, 0, -1), UNKNOWN);
-        T.due("needed: set, then BAD", x.needed(2, 0, -1), UNKNOWN);
-        T.due("does: set, then BAD", x.does(2, 0, -1, 0), UNKNOWN);
-        T.due("does: BAD, then side", x.does(1, 0, 1, 5), BAD);
     }
 
     private static void plansChangeNothing() {

@@ -5,7 +5,6 @@ public final class SpeedsTest {
 
     public static void main(String[] args) {
         signsAreNumbered();
-        signsAreRefused();
         signsAreDropped();
         theSpeedIsTheLeastOfTheHeaviest();
         theSpanGoesOnWhileItWeighsAsMuch();
@@ -29,25 +28,6 @@ public final class SpeedsTest {
         T.due("a dropped one keeps its number", x.sign(0, 1, 2, 1), WaxVoices.FULL);
         T.due("29 of side 1", x.weighs(1, 1), 29);
         T.due("30 of side 0", x.weighs(0, 2), 30);
-    }
-
-    private static void signsAreRefused() {
-        WaxVoices x = Check.withSides(1);
-        T.due("side 1", x.sign(1, 0, 0, 0), UNKNOWN);
-        T.due("side -1", x.sign(-1, 1, 1, 1), UNKNOWN);
-        T.due("low 0", x.sign(0, 0, 5, 1), BAD);
-        T.due("low above high", x.sign(0, 6, 5, 1), BAD);
-        T.due("high 0", x.sign(0, 0, 0, 1), BAD);
-        T.due("high 30001", x.sign(0, 5, 30001, 1), BAD);
-        T.due("low MIN", x.sign(0, Integer.MIN_VALUE, 5, 1), BAD);
-        T.due("high MAX", x.sign(0, 5, Integer.MAX_VALUE, 1), BAD);
-        T.due("weight 0", x.sign(0, 5, 5, 0), BAD);
-        T.due("weight 10", x.sign(0, 5, 5, 10), BAD);
-        T.due("none was made", x.total(2), 0);
-        T.due("no speed", x.speed(0), NONE);
-        T.due("the widest", x.sign(0, 1, 30000, 9), 0);
-        T.due("the least", x.sign(0, 1, 1, 1), 1);
-        T.due("the highest", x.sign(0, 30000, 30000, 1), 2);
     }
 
     private static void signsAreDropped() {

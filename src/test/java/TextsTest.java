@@ -6,15 +6,11 @@ public final class TextsTest {
     public static void main(String[] args) {
         sungIsSet();
         textsAreNumbered();
-        textsAreRefused();
         theLatestDayCounts();
         anySongAnyHearer();
-        countsIsRefused();
         eachFamilyMustLet();
-        mayIsRefused();
         allThatIsHeard();
         daysAreCounted();
-        daysAreRefused();
         T.end();
     }
 
@@ -45,25 +41,6 @@ public final class TextsTest {
         T.due("the latest day has the least number", x.counts(0, 0, 0, 100), 0);
         T.due("a day ahead of it", x.counts(0, 0, 0, 99), 8);
         T.due("the last number is the first day", x.counts(3, 0, 0, 41), 59);
-    }
-
-    private static void textsAreRefused() {
-        WaxVoices x = new WaxVoices();
-        T.due("family 8", x.text(8, 0, 0, 0, true), UNKNOWN);
-        T.due("family -1", x.text(-1, 0, 0, 0, true), UNKNOWN);
-        T.due("family NONE", x.text(NONE, 0, 0, 0, true), UNKNOWN);
-        T.due("song 4", x.text(0, 4, 0, 0, true), UNKNOWN);
-        T.due("song -1", x.text(0, -1, 0, 0, true), UNKNOWN);
-        T.due("hearer 6", x.text(0, 0, 6, 0, true), UNKNOWN);
-        T.due("hearer -1", x.text(0, 0, -1, 0, true), UNKNOWN);
-        T.due("UNKNOWN goes before BAD", x.text(0, 0, 6, -1, true), UNKNOWN);
-        T.due("day -1", x.text(0, 0, 0, -1, true), BAD);
-        T.due("day 10000", x.text(0, 0, 0, 10000, true), BAD);
-        T.due("none was made", x.total(4), 0);
-        T.due("the last of all", x.text(7, 3, 5, 9999, true), 0);
-        T.due("the first of all", x.text(0, 0, 0, 0, true), 1);
-        T.due("it counts", x.counts(7, 3, 5, 9999), 0);
-        T.due("it counts", x.counts(0, 0, 0, 0), 1);
     }
 
     private static void theLatestDayCounts() {
@@ -99,18 +76,6 @@ public final class TextsTest {
         T.due("the nearer one does not go before the later", x.counts(2, 3, 1, 20), 1);
     }
 
-    private static void countsIsRefused() {
-        WaxVoices x = new WaxVoices();
-        T.due("family 8", x.counts(8, 0, 0, 0), UNKNOWN);
-        T.due("family -1", x.counts(-1, 0, 0, 0), UNKNOWN);
-        T.due("song NONE", x.counts(0, NONE, 0, 0), UNKNOWN);
-        T.due("song 4", x.counts(0, 4, 0, 0), UNKNOWN);
-        T.due("hearer NONE", x.counts(0, 0, NONE, 0), UNKNOWN);
-        T.due("hearer 6", x.counts(0, 0, 6, -1), UNKNOWN);
-        T.due("day -1", x.counts(0, 0, 0, -1), BAD);
-        T.due("day 10000", x.counts(0, 0, 0, 10000), BAD);
-    }
-
     private static void eachFamilyMustLet() {
         WaxVoices x = Check.withSides(2);
         T.due("no family: any may", x.may(0, 5, 0), 1);
@@ -130,17 +95,6 @@ public final class TextsTest {
         x.sung(0, 0b10000000, 2);
         T.due("another song", x.may(0, 5, 14), 0);
         T.due("another side", x.may(1, 5, 14), 1);
-    }
-
-    private static void mayIsRefused() {
-        WaxVoices x = Check.withSides(1);
-        T.due("side 1", x.may(1, 0, 0), UNKNOWN);
-        T.due("side -1", x.may(-1, 0, 0), UNKNOWN);
-        T.due("hearer 6", x.may(0, 6, 0), UNKNOWN);
-        T.due("hearer NONE", x.may(0, NONE, 0), UNKNOWN);
-        T.due("UNKNOWN goes before BAD", x.may(0, 6, -1), UNKNOWN);
-        T.due("day -1", x.may(0, 0, -1), BAD);
-        T.due("day 10000", x.may(0, 0, 10000), BAD);
     }
 
     private static void allThatIsHeard() {
@@ -181,18 +135,5 @@ public final class TextsTest {
         T.due("all days", x.days(3, 0, 0, 9999), 10 + 9960);
         x.text(1, NONE, NONE, 40, false);
         T.due("of one day the latest text", x.days(2, 0, 0, 9999), 20);
-    }
-
-    private static void daysAreRefused() {
-        WaxVoices x = Check.withSides(1);
-        T.due("an unknown bit", x.days(2, 0, 0, 0), UNKNOWN);
-        T.due("a negative set", x.days(-1, 0, 0, 0), UNKNOWN);
-        T.due("hearer 6", x.days(1, 6, 0, 0), UNKNOWN);
-        T.due("UNKNOWN goes before BAD", x.days(1, NONE, 5, 4), UNKNOWN);
-        T.due("from -1", x.days(1, 0, -1, 0), BAD);
-        T.due("from 10000", x.days(1, 0, 10000, 10000), BAD);
-        T.due("to 10000", x.days(1, 0, 0, 10000), BAD);
-        T.due("to below from", x.days(1, 0, 5, 4), BAD);
-        T.due("to MIN", x.days(1, 0, 5, Integer.MIN_VALUE), BAD);
     }
 }
