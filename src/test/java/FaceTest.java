@@ -61,6 +61,9 @@ public final class FaceTest {
         for (Method m : face.getDeclaredMethods()) {
             if (Modifier.isPrivate(m.getModifiers())) T.holds(m + " has a name of its own", !names.contains(m.getName()));
         }
+        for (Class<?> c : face.getDeclaredClasses()) {
+            for (Method m : c.getDeclaredMethods()) T.holds(m + " has a name of its own", !names.contains(m.getName()));
+        }
         Set<String> constants = new TreeSet<>();
         for (Field f : face.getDeclaredFields()) {
             if (!Modifier.isPrivate(f.getModifiers())) constants.add(f.getName());
