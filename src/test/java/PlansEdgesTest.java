@@ -26,6 +26,7 @@ public final class PlansEdgesTest {
         promise8Bad();
         promise8Order();
         promise9LeastHours();
+        promise9EachNumberOfHours();
         promise9NoneAboveMostHours();
         promise9NoneAboveMostSaved();
         promise9EmptySet();
@@ -191,6 +192,19 @@ public final class PlansEdgesTest {
         E.still("hours in each year", "side(1, 1, 0, 0) ".repeat(6), "needed(0x3f, 1, 6)=30 needed(0x3f, 2, 6)=15 "
                 + "needed(0x3f, 3, 6)=10");
         E.still("what saves nothing needs nothing", "side(0, 100, 0, 0) side(10, 0, 0, 0) ", "needed(3, 1, 0)=0 needed(3, 3, 1)=NONE");
+    }
+
+    private static void promise9EachNumberOfHours() {
+        for (int hours = 1; hours <= 3000; hours++) {
+            WaxVoices x = new WaxVoices();
+            // as many SIDES of 1000 hours as fit, and one for the rest
+            for (int left = hours; left > 0; left -= 1000) {
+                int side = x.side(1, 1, 0, 0);
+                x.hours(side, Math.min(left, 1000), Math.min(left, 1000));
+            }
+            int sides = x.total(0);
+            T.due("the least hours, of all that there may be", x.needed((1 << sides) - 1, 1, sides), hours);
+        }
     }
 
     private static void promise9NoneAboveMostHours() {
