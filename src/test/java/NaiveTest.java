@@ -21,12 +21,15 @@ public final class NaiveTest {
     private final NaiveWax n = new NaiveWax();
     private final int dayScale;
     private final int speedScale;
+    private final boolean wide;
 
     private NaiveTest(int run) {
         seed = run * 7919L + 17;
         // days and speeds that lie close together meet more often
         dayScale = run % 3 == 0 ? 10000 : 12;
         speedScale = run % 2 == 0 ? 30000 : 40;
+        // small numbers make like plans, large ones come near all that can be saved
+        wide = run % 5 == 0;
     }
 
     public static void main(String[] args) {
@@ -52,15 +55,15 @@ public final class NaiveTest {
 
     private int[] arguments(Op op) {
         return switch (op) {
-            case side -> of(num(0, 20), num(0, 100), num(0, 15), num(0, 6));
-            case hours -> of(aSide(), num(1, 12), num(1, 12));
+            case side -> of(num(0, wide ? 1000 : 20), num(0, 100), num(0, 15), num(0, 6));
+            case hours -> of(aSide(), num(1, wide ? 1000 : 12), num(1, wide ? 1000 : 12));
             case told -> of(aSide(), num(0, 8));
             case read -> of(aSide(), below(2));
             // years are few, so that sides do not all rot away
             case pass -> of(below(8) == 0 ? num(1, 3) : 0);
-            case best -> of(set(6), num(1, 3), num(0, 40));
-            case does -> of(set(6), num(1, 3), num(0, 40), aSide());
-            case needed -> of(set(6), num(1, 3), num(0, 5000));
+            case best -> of(set(6), num(1, 3), num(0, wide ? 3000 : 40));
+            case does -> of(set(6), num(1, 3), num(0, wide ? 3000 : 40), aSide());
+            case needed -> of(set(6), num(1, 3), num(0, wide ? 300000 : 5000));
             case sign -> signArguments();
             case drop -> of(below(3) == 0 ? num(0, 59) : 60);
             case speed, span, quarrels -> of(oneOfTwo());
